@@ -78,6 +78,10 @@ public final class PointsTest {
                 + "remove(0) = 0; undo() = 1; setWeight(0, 7) = 7; setSpeed(0, 0, 0) = false");
         runs.run("8: undo takes passing back too", "addPoint(1, 1) = 0; setSpeed(0, 1, 2) = true; addPoint(50, 50) = 1;"
                 + "pass(10) = 1; pointAt(11, 21) = 0; undo() = 1; pointAt(1, 1) = 0; countPoints() = 1");
+        runs.run("8: undo keeps the twelfth point whole", TWELVE + "setWeight(11, 3) = 0; setSpeed(11, 2, 0) = true;"
+                + "move(11, 50, 60) = 5121; setWeight(11, 4) = 3; setSpeed(11, 0, 0) = false; undo() = 12; pointAt(11, 0) = 11;"
+                + "setWeight(11, 4) = 3; setSpeed(11, 0, 3) = false; remove(11) = 11; undo() = 12; setWeight(11, 4) = 4;"
+                + "setSpeed(11, 0, 0) = false; undo() = 11; countPoints() = 11");
         runs.run("8: undo of a move to the same place", "addPoint(1, 1) = 0; move(0, 1, 1) = 0; undo() = 1; undo() = 0");
         runs.run("8: calls that throw, or are none of the three, leave nothing to undo", "addPoint(1, 1) = 0;"
                 + "addPoint(1, 1) = throws.UnsupportedOperationException; remove(3) = throws.IndexOutOfBoundsException;"

@@ -89,6 +89,15 @@ public final class ShapesTest {
                 + "pointAt(0, 100) = 2; pointAt(25, -50) = 0; pass(0) = throws.IllegalArgumentException;"
                 + "pass(21) = throws.IllegalArgumentException; pass(-1) = throws.IllegalArgumentException;"
                 + "setSpeed(2, 0, -1) = false; pass(1) = 2; pointAt(0, 99) = 2");
+        runs.run("38: up to the edges, not beyond", "addPoint(90, 0) = 0; setSpeed(0, 5, 0) = true; pass(2) = 1;"
+                + "pass(1) = throws.UnsupportedOperationException; setSpeed(0, -9, 0) = false; pass(20) = 1;"
+                + "setSpeed(0, -1, -5) = false; pass(20) = 1; pointAt(-100, -100) = 0;"
+                + "pass(1) = throws.UnsupportedOperationException; setSpeed(0, 0, -1) = false;"
+                + "pass(1) = throws.UnsupportedOperationException; setSpeed(0, -1, 0) = false;"
+                + "pass(1) = throws.UnsupportedOperationException; setSpeed(0, 0, 1) = false; pass(1) = 1");
+        runs.run("38: two at the same place, one going up", "addPoint(0, 0) = 0; addPoint(0, 10) = 1;"
+                + "setSpeed(0, 0, 1) = true; setSpeed(1, 0, -1) = true; pass(5) = throws.UnsupportedOperationException;"
+                + "pass(4) = 2; pointAt(0, 4) = 0; pointAt(0, 6) = 1");
         runs.run("38: two at the same place", "addPoint(0, 0) = 0; addPoint(10, 0) = 1; setSpeed(0, 1, 0) = true;"
                 + "pass(10) = throws.UnsupportedOperationException; pass(11) = 1; pointAt(11, 0) = 0; setSpeed(1, 2, 0) = true;"
                 + "pass(1) = throws.UnsupportedOperationException; pass(2) = 2; pointAt(13, 0) = 0; pointAt(14, 0) = 1");
@@ -119,6 +128,10 @@ public final class ShapesTest {
                 + "setSpeed(1, 9, 0) = true; nextTime(0, 0) = throws.NoSuchElementException; nextTime(1, 0) = throws.NoSuchElementException;"
                 + "nextTime(4, 0) = throws.NoSuchElementException;"
                 + "nextTime(5, 0) = 12; nextNearest(5, 0) = 1; nextTime(100, 0) = 12");
+        runs.run("40: up and down, and a change at once", "addPoint(0, 0) = 0; addPoint(0, 20) = 1;"
+                + "setSpeed(1, 0, -3) = true; nextTime(0, 5) = 4; nextNearest(0, 5) = 1; move(1, 0, -20) = 1600;"
+                + "nextTime(0, -10) = throws.NoSuchElementException; setSpeed(1, 0, 9) = false; nextTime(0, -9) = 1;"
+                + "nextNearest(0, -9) = 1; nextTime(0, -14) = 3; nextNearest(0, -14) = 0");
         runs.run("40: places are those of now for all else", "addPoint(0, 0) = 0; addPoint(20, 0) = 1; setSpeed(1, -9, 0) = true;"
                 + "nearest('e', 5, 0) = 0; nextTime(5, 0) = 2; nearest('e', 5, 0) = 0; pass(2) = 1; nearest('e', 5, 0) = 1;"
                 + "pointAt(2, 0) = 1");

@@ -76,6 +76,9 @@ public final class TrianglesTest {
                 + "isJoined('g', 0, 1) = false; move(2, 0, 20) = 298; isJoined('g', 1, 0) = true; isJoined('r', 1, 0) = true");
         runs.run("21: a point as far as both is not nearer", "addPoint(0, 0) = 0; addPoint(5, 0) = 1; addPoint(3, 4) = 2;"
                 + "isJoined('r', 0, 1) = true; isJoined('r', 0, 2) = true; isJoined('r', 1, 2) = true");
+        runs.run("21: like near to the one end, or to the other one", "addPoint(0, 0) = 0; addPoint(10, 0) = 1;"
+                + "addPoint(6, 8) = 2; isJoined('r', 0, 1) = true; isJoined('g', 0, 1) = true; move(2, 4, 8) = 4;"
+                + "isJoined('r', 0, 1) = true; isJoined('r', 1, 0) = true; move(2, 5, 8) = 1; isJoined('r', 0, 1) = false");
         runs.run("21: 'n' by the lowest of like ones", "addPoint(0, 0) = 0; addPoint(5, 0) = 1; addPoint(-5, 0) = 2;"
                 + "addPoint(9, 0) = 3; addPoint(-9, 0) = 4; isJoined('n', 0, 1) = true; isJoined('n', 0, 2) = false;"
                 + "isJoined('n', 1, 3) = true; isJoined('n', 2, 4) = true; countJoined('n') = 3; countJoined('t') = 4;"
