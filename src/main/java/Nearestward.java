@@ -23,6 +23,8 @@ public final class Nearestward {
     private static final int CELL_EDGE = 20;
     private static final int ALL_SETS = 1 << MOST_POINTS;
     private static final int NONE = -1;
+    /** No distance of two points comes up to it. */
+    private static final int BEYOND_ALL = 1000000;
 
     private final Ground ground;
     private final History history;
@@ -1214,12 +1216,15 @@ public final class Nearestward {
 
         private static boolean isOutermost(Ground ground, int set, int point) {
             for (int other = 0; other < MOST_POINTS; other++) {
-                if (isIn(set, other) && other != point
-                        && Math.min(countAt(ground, set, point, other, 1), countAt(ground, set, point, other, -1)) == 0) {
+                if (isIn(set, other) && other != point && isOnBorder(ground, set, point, other)) {
                     return true;
                 }
             }
             return set == 1 << point;
+        }
+
+        private static boolean isOnBorder(Ground ground, int set, int from, int to) {
+            return countAt(ground, set, from, to, 1) == 0 || countAt(ground, set, from, to, -1) == 0;
         }
 
         private static int countAt(Ground ground, int set, int from, int to, int side) {
@@ -1444,7 +1449,7 @@ public final class Nearestward {
         }
 
         private static int nearestOf(Ground ground, int set, int point) {
-            int least = Integer.MAX_VALUE;
+            int least = BEYOND_ALL;
             for (int middle = 0; middle < MOST_POINTS; middle++) {
                 if (isIn(set, middle)) {
                     least = Math.min(least, ground.distance(point, middle));

@@ -51,6 +51,11 @@ public final class ClustersTest {
         runs.run("44: a lower first one goes ahead of a lower second one", "addPoint(40, 0) = 0; addPoint(1, 0) = 1;"
                 + "addPoint(0, 0) = 2; addPoint(-1, 0) = 3; addPoint(41, 0) = 4; centreDistance(2) = 1; centre(2, 0) = 0;"
                 + "centre(2, 1) = 2; move(2, 0, 5) = 25; centreDistance(2) = 26; centre(2, 0) = 0; centre(2, 1) = 1");
+        runs.run("44: lower numbers do not make a greater distance good", "addPoint(-3, 0) = 0; addPoint(0, 0) = 1;"
+                + "addPoint(50, 0) = 2; addPoint(53, 0) = 3; addPoint(3, 0) = 4; addPoint(47, 0) = 5; centreDistance(2) = 9;"
+                + "centre(2, 0) = 1; centre(2, 1) = 2; centre(1, 0) = 4; centreDistance(1) = 2500");
+        runs.run("45: one disc round the lowest number", "addPoint(0, 0) = 0; addPoint(9, 0) = 1; addPoint(-9, 0) = 2;"
+                + "countDiscs(80) = 3; countDiscs(81) = 1; countDiscs(323) = 1");
         runs.run("45: countDiscs", THREE + "countDiscs(0) = 3; countDiscs(99) = 3; countDiscs(100) = 2; countDiscs(399) = 2;"
                 + "countDiscs(400) = 1; countDiscs(99999) = 1; countDiscs(-1) = throws.IllegalArgumentException;"
                 + "countDiscs(100000) = throws.IllegalArgumentException; remove(1) = 2; countDiscs(899) = 2; countDiscs(900) = 1");
@@ -68,6 +73,8 @@ public final class ClustersTest {
         runs.run("48: checksum", "checksum() = 6727; addPoint(3, -4) = 0; checksum() = 6215177166;"
                 + "setWeight(0, 9) = 0; checksum() = 6215185815; addWall(0, 0, 1, 1) = 0; checksum() = 6215185846;"
                 + "setSpeed(0, 1, 1) = true; checksum() = 6215185846; undo() = 0; checksum() = 6758");
+        runs.run("48: triangles are counted, whatever was asked before", "addPoint(0, 0) = 0; addPoint(1, 0) = 1;"
+                + "addPoint(0, 1) = 2; checksum() = 4392024683503414661");
         runs.run("48: the numbers of points count, and triangles", THREE + "addPoint(0, 20) = 3; remove(1) = 3;"
                 + "remove(0) = 2; checksum() = 5815864070793452; addPoint(-5, -5) = 0; countTriangles() = 1;"
                 + "checksum() = 326719553570083341");

@@ -82,6 +82,10 @@ public final class PointsTest {
                 + "move(11, 50, 60) = 5121; setWeight(11, 4) = 3; setSpeed(11, 0, 0) = false; undo() = 12; pointAt(11, 0) = 11;"
                 + "setWeight(11, 4) = 3; setSpeed(11, 0, 3) = false; remove(11) = 11; undo() = 12; setWeight(11, 4) = 4;"
                 + "setSpeed(11, 0, 0) = false; undo() = 11; countPoints() = 11");
+        runs.run("8: undo brings both parts of a speed back", "addPoint(1, 1) = 0; setSpeed(0, 0, 2) = true;"
+                + "move(0, 5, 5) = 32; setSpeed(0, 0, 0) = false; undo() = 1; pass(3) = 1; pointAt(1, 7) = 0;"
+                + "setSpeed(0, -2, 0) = false; move(0, 5, 5) = 20; setSpeed(0, 0, 0) = false; undo() = 1; pass(3) = 1;"
+                + "pointAt(-5, 7) = 0");
         runs.run("8: undo of a move to the same place", "addPoint(1, 1) = 0; move(0, 1, 1) = 0; undo() = 1; undo() = 0");
         runs.run("8: calls that throw, or are none of the three, leave nothing to undo", "addPoint(1, 1) = 0;"
                 + "addPoint(1, 1) = throws.UnsupportedOperationException; remove(3) = throws.IndexOutOfBoundsException;"

@@ -64,6 +64,11 @@ public final class ShapesTest {
                 + "move(0, 5, 4) = 64; sees(5, 4, 0) = true; sees(5, 5, 0) = false");
         runs.run("34: a long slanting wall, all but met", "addPoint(99, 98) = 0; addWall(-100, -100, 100, 100) = 0;"
                 + "sees(-99, -100, 0) = true; sees(-100, -99, 0) = false; move(0, 99, 99) = 1; sees(99, 98, 0) = false");
+        runs.run("34: up and down through level walls", "addPoint(0, 10) = 0; addWall(-5, 0, 5, 0) = 0;"
+                + "sees(0, -10, 0) = false; sees(10, -10, 0) = false; sees(11, -10, 0) = true; sees(-11, -10, 0) = true;"
+                + "move(0, 0, -10) = 400; sees(0, 10, 0) = false; sees(0, -1, 0) = true; sees(-9, 10, 0) = false");
+        runs.run("34: a way that ends before the wall", "addPoint(4, 6) = 0; addWall(0, 0, 10, 10) = 0; sees(2, 9, 0) = true;"
+                + "move(0, 5, 5) = 2; sees(2, 9, 0) = false; move(0, 6, 4) = 2; sees(8, 1, 0) = true; sees(2, 9, 0) = false");
         runs.run("35: countSeen", "addPoint(0, 0) = 0; countSeen(0) = 0; addPoint(10, 0) = 1; addPoint(0, 10) = 2;"
                 + "countSeen(0) = 2; addWall(5, -5, 5, 4) = 0; countSeen(0) = 1; countSeen(1) = 1; countSeen(2) = 2;"
                 + "addWall(0, 10, 0, 20) = 1; countSeen(2) = 0; countSeen(0) = 0; countSeen(1) = 0;"

@@ -40,6 +40,11 @@ public final class TrianglesTest {
                 + "isTriangle(0, -1, 2) = throws.IndexOutOfBoundsException; addPoint(9, 1) = 4; isTriangle(0, 1, 2) = false;"
                 + "isTriangle(0, 1, 4) = true; remove(4) = 4; isTriangle(0, 1, 2) = true;"
                 + "isTriangle(0, 1, 4) = throws.IndexOutOfBoundsException");
+        runs.run("18: triangles that are no more", "addPoint(0, 0) = 0; addPoint(9, 0) = 1; addPoint(0, 9) = 2;"
+                + "isTriangle(0, 1, 2) = true; move(2, 4, 0) = 97; isTriangle(0, 1, 2) = false; areNeighbours(0, 1) = false;"
+                + "move(2, 4, 9) = 81; addPoint(4, 3) = 3; isTriangle(0, 1, 2) = false; isTriangle(0, 1, 3) = true;"
+                + "isTriangle(1, 2, 3) = true; remove(2) = 3; isTriangle(0, 1, 3) = true; countTriangles() = 1;"
+                + "addPoint(90, 90) = 2; isTriangle(0, 2, 3) = true; move(3, 4, -3) = 36; isTriangle(0, 2, 3) = false");
         runs.run("17: a point on the circle of two triangles side by side", "addPoint(-5, 0) = 0; addPoint(5, 0) = 1;"
                 + "addPoint(0, 12) = 2; addPoint(0, -12) = 3; countTriangles() = 2; isTriangle(0, 1, 2) = true;"
                 + "isTriangle(0, 1, 3) = true; areNeighbours(2, 3) = false");
@@ -83,6 +88,12 @@ public final class TrianglesTest {
                 + "addPoint(9, 0) = 3; addPoint(-9, 0) = 4; isJoined('n', 0, 1) = true; isJoined('n', 0, 2) = false;"
                 + "isJoined('n', 1, 3) = true; isJoined('n', 2, 4) = true; countJoined('n') = 3; countJoined('t') = 4;"
                 + "countJoined('g') = 4; countJoined('r') = 4");
+        runs.run("21: 'n' by the nearest one of either", "addPoint(0, 0) = 0; addPoint(1, 0) = 1; addPoint(-3, 0) = 2;"
+                + "addPoint(5, 0) = 3; isJoined('n', 0, 2) = true; isJoined('n', 2, 0) = true; isJoined('n', 1, 3) = true;"
+                + "isJoined('n', 3, 1) = true; isJoined('n', 0, 3) = false; countJoined('n') = 3");
+        runs.run("21: 't' once more behind a move", "addPoint(0, 0) = 0; addPoint(10, 0) = 1; addPoint(30, 0) = 2;"
+                + "isJoined('t', 0, 1) = true; isJoined('t', 0, 2) = false; move(0, 50, 0) = 2500; isJoined('t', 0, 1) = false;"
+                + "isJoined('t', 1, 0) = false; isJoined('t', 0, 2) = true; countJoined('t') = 2; treeSum() = 800");
         runs.run("21: 't' by the lowest of like edges", SQUARE + "isJoined('t', 0, 1) = true; isJoined('t', 0, 3) = true;"
                 + "isJoined('t', 1, 2) = true; isJoined('t', 2, 3) = false; isJoined('t', 0, 2) = false;"
                 + "isJoined('g', 0, 2) = true; isJoined('g', 1, 3) = true; isJoined('r', 0, 2) = false");
@@ -102,6 +113,8 @@ public final class TrianglesTest {
         runs.run("25: few points, or points on a line", "countHull() = 0; addPoint(0, 0) = 0; countHull() = 1;"
                 + "addPoint(0, 9) = 1; countHull() = 2; addPoint(0, 5) = 2; countHull() = 2; addPoint(0, -3) = 3;"
                 + "countHull() = 2; hullAt(0) = 3; hullAt(1) = 1; hullAt(2) = throws.NoSuchElementException; hullArea() = 0");
+        runs.run("25: the hull of points that are no more", "addPoint(0, 0) = 0; countHull() = 1; remove(0) = 0;"
+                + "countHull() = 0; hullAt(0) = throws.NoSuchElementException; hullArea() = 0");
         runs.run("26: from the lowest one to the left", "hullAt(0) = throws.NoSuchElementException; addPoint(5, 9) = 0;"
                 + "addPoint(7, 0) = 1; addPoint(0, 5) = 2; addPoint(3, 0) = 3; addPoint(10, 5) = 4; addPoint(5, 0) = 5;"
                 + "addPoint(5, 5) = 6; countHull() = 5; hullAt(0) = 3; hullAt(1) = 1; hullAt(2) = 4; hullAt(3) = 0;"
@@ -126,10 +139,14 @@ public final class TrianglesTest {
                 + "layer(7) = 1; layer(8) = 1; layer(9) = 2; layer(10) = 2; layer(11) = throws.IndexOutOfBoundsException;"
                 + "layer(-1) = throws.IndexOutOfBoundsException; remove(10) = 10; layer(9) = 2; remove(0) = 9; layer(5) = 0");
         runs.run("28: layers on a line", LINE + "layer(0) = 0; layer(1) = 0; layer(2) = 0; layer(3) = 0");
+        runs.run("28: the lowest number in the middle", "addPoint(4, 4) = 0; addPoint(0, 0) = 1; addPoint(9, 0) = 2;"
+                + "addPoint(0, 9) = 3; layer(0) = 1; layer(1) = 0; layer(2) = 0; layer(3) = 0; remove(3) = 3; layer(0) = 0");
         runs.run("28: one point", "addPoint(1, 1) = 0; layer(0) = 0; addPoint(2, 1) = 1; layer(1) = 0");
         runs.run("29: depth", "addPoint(0, 0) = 0; depth(0) = 1; addPoint(10, 0) = 1; depth(0) = 1; addPoint(5, 0) = 2;"
                 + "depth(2) = 2; depth(0) = 1; addPoint(7, 0) = 3; addPoint(8, 0) = 4; depth(2) = 2; depth(3) = 3;"
                 + "depth(5) = throws.IndexOutOfBoundsException; depth(-1) = throws.IndexOutOfBoundsException");
+        runs.run("29: depth of two, by the lowest number", "addPoint(0, 0) = 0; addPoint(10, 0) = 1; depth(1) = 1;"
+                + "remove(0) = 1; depth(1) = 1");
         runs.run("29: depth in the middle", SQUARE + "addPoint(5, 5) = 4; depth(4) = 3; depth(0) = 1; addPoint(5, 0) = 5;"
                 + "depth(5) = 2; addPoint(5, 10) = 6; depth(4) = 4; move(4, 5, 1) = 16; depth(4) = 3");
     }
