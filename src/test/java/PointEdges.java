@@ -356,6 +356,13 @@ final class PointEdges {
                 + "countTriangles() = 1; treeSum() = 200; hullArea() = 100; isTriangle(0, 1, 2) = true");
     }
 
+    static void promise08_anotherMoveBehindItIsNotTakenForTheOneTakenBack(Runs runs) {
+        runs.run("addPoint(0, 0) = 0; addPoint(10, 0) = 1; addPoint(0, 10) = 2; move(2, 5, 0) = 125; countTriangles() = 0;"
+                + "treeSum() = 50; undo() = 3; move(2, 20, 20) = 500; countTriangles() = 1; treeSum() = 600; undo() = 3;"
+                + "remove(2) = 2; countTriangles() = 0; treeSum() = 100; undo() = 3; addPoint(9, 9) = 3; countTriangles() = 2;"
+                + "treeSum() = 264");
+    }
+
     /** A point, and so many moves to the right, one each. */
     private static String movesToTheRight(int moves) {
         StringBuilder text = new StringBuilder("addPoint(0, 0) = 0;");

@@ -397,6 +397,12 @@ final class TriangleEdges {
                 + "depth(11) = 1");
     }
 
+    static void promise29_onAnUprightAndOnSlantingLines(Runs runs) {
+        runs.run("addPoint(20, 10) = 0; addPoint(20, 20) = 1; addPoint(20, 0) = 2; depth(0) = 2; depth(1) = 1; depth(2) = 1;"
+                + "move(0, 10, 10) = 100; move(2, 0, 0) = 400; depth(0) = 2; depth(1) = 1; depth(2) = 1; move(1, 0, 20) = 400;"
+                + "move(2, 20, 0) = 400; depth(0) = 2; depth(1) = 1; depth(2) = 1; move(0, 10, 11) = 1; depth(0) = 1");
+    }
+
     static void promise29_pointsOnTheLineAreCounted(Runs runs) {
         runs.run(SQUARE + "addPoint(5, 5) = 4; depth(4) = 3; move(4, 5, 0) = 25; depth(4) = 2; move(4, 5, 1) = 1; depth(4) = 2;"
                 + "move(4, 5, -1) = 4; depth(4) = 1; depth(0) = 1");
